@@ -59,6 +59,9 @@ public final class BestTest {
         C.due("extra(2, 0)", x.extra(2, 0), 4);
         C.due("extra(60, 1)", x.extra(60, 1), 1);
         C.due("rule(6)", x.rule(6), 1);
+        GloveAbout y = Check.told("signer 2 6;signer 1 6;man 9;");
+        C.due("extra(2, 1): the one CALL of each day", y.extra(2, 1), 2);
+        C.due("extra(2, 0)", y.extra(2, 0), 3);
         for (int i = 0; i < 4; i++) {
             x.call(9);
         }
@@ -132,6 +135,11 @@ public final class BestTest {
         z.cut(2);
         // DAY 1: CALL 1 is at 5 and meets it; without CALL 0 that is CALL 0 (1 modulo 1), without CALL 1 he is at 3.
         C.due("shun(1, 0)", z.shun(1, 0), 1);
+        GloveAbout full = Check.told("signer 2 9;fame 0 0 0 3 2 0 0 0 9;route 9 9 9 9 9 8;man 9;");
+        C.due("days(2)", full.days(2), 5);
+        // The glove is at 8 on DAY 5, as he is: 9 are lost, unless a CALL is left out; then he comes to 8 a day ahead.
+        C.due("shun(4, 0) of six", full.shun(4, 0), 0);
+        C.due("shun(4, 1): more than now", full.shun(4, 1), 9);
     }
 
     private static void need() {

@@ -5,9 +5,39 @@ public final class ImageTest {
     public static void main(String[] args) {
         wrongOnes();
         all();
+        whatWasSeen();
         two();
         sheetsAndTapeStay();
         C.finish();
+    }
+
+    private static void whatWasSeen() {
+        GloveAbout x = Check.told("signer 2 9;signer 5 9;man 9;");
+        x.see(1, 0, 3);
+        x.see(2, 1, 7);
+        x.keep(0);
+        C.due("doors(0)", x.doors(0), 4);
+        C.due("doors(1)", x.doors(1), 32);
+        x.forget(0);
+        x.see(3, 1, 8);
+        x.see(3, 0, 5);
+        x.see(0, 0, 11);
+        C.due("doors(0) of others", x.doors(0), 0);
+        x.keep(1);
+        x.back(0);
+        C.due("count(0)", x.count(0), 2);
+        C.due("doors(0)", x.doors(0), 4);
+        C.due("doors(1)", x.doors(1), 32);
+        C.due("forget(1)", x.forget(1), 2);
+        C.due("doors(0)", x.doors(0), 4);
+        C.due("doors(1): the first is of the other one", x.doors(1), 4095);
+        x.back(1);
+        C.due("count(0)", x.count(0), 3);
+        x.forget(2);
+        C.due("doors(0)", x.doors(0), 4);
+        C.due("doors(1)", x.doors(1), 32);
+        x.forget(1);
+        C.due("doors(0): the first is of the other one", x.doors(0), 4095);
     }
 
     private static void wrongOnes() {

@@ -9,6 +9,7 @@ public final class OddsTest {
         mean();
         drift();
         driftByOwnSum();
+        driftOfManyDays();
         trialsChangeNothing();
         C.finish();
     }
@@ -126,6 +127,21 @@ public final class OddsTest {
                 GloveAbout x = Check.told("signer 0 5;");
                 x.alter(0, 1, (d + 11) % 12);
                 C.due("drift(" + seed + ", 1, 1), the glove comes to " + d, x.drift(seed, 1, 1), d == door ? 1 : 0);
+            }
+        }
+    }
+
+    /** A signer is at its door and n more on day n, so that the doors of all days show. */
+    private static void driftOfManyDays() {
+        for (int seed = -50; seed < 50; seed++) {
+            GloveAbout x = Check.told("signer 0 20;fame 1 1 1 1 1 1 1 1 1 1 1 1;");
+            long sum = seed;
+            int met = 0;
+            for (int n = 1; n <= 20; n++) {
+                sum = Math.floorMod(sum * 1103515245L + 12345, 1L << 32);
+                met = met == 0 && sum / 65536 % 32768 % 12 == n % 12 ? n : met;
+                C.due("drift(" + seed + ", " + n + ", 1)", x.drift(seed, n, 1), met > 0 ? 1 : 0);
+                C.due("drift(" + seed + ", " + n + ", 0)", x.drift(seed, n, 0), met > 0 ? met - 1 : n);
             }
         }
     }

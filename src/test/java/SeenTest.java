@@ -114,6 +114,9 @@ public final class SeenTest {
         // The man at 8: 3, 4, 3, 3 on day 1; 4, 6, 2, 4 on day 2; signer and bold one go alike till they are met.
         C.due("ask(0, 0)", y.ask(0, 0), 2);
         C.due("ask(0, 1)", y.ask(0, 1), 2);
+        GloveAbout z = Check.told("shy 2 20;route 8 9 0 3 4 7;man 0;");
+        C.due("ask(0, 0): late", z.ask(0, 0), 13);
+        C.due("ask(0, 1)", z.ask(0, 1), 1);
     }
 
     private static void ofAllGloves() {

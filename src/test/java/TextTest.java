@@ -105,6 +105,7 @@ public final class TextTest {
         x.keep(0);
         x.keep(1);
         x.sheet(0, 1, 3);
+        C.due("runs(9, 3): nothing of a trial is told either", x.runs(9, 3), 3);
         C.holds("a day has passed and NAME is told", x.rule(1) == 2 && x.rule(3) > 0 && x.rule(4) != 0);
         C.due("text() of nothing tells all", x.text(), 0);
         for (int what = 0; what <= 6; what++) {
@@ -165,6 +166,13 @@ public final class TextTest {
         faulty("signers 1 1;", 2, 0);
         faulty("signe 1 1;", 2, 0);
         faulty("signershy 1 1;", 2, 0);
+        faulty("designer 1 1;", 2, 0);
+        faulty("hold 1 1;", 2, 0);
+        faulty("can 1;", 2, 0);
+        faulty("lame;", 2, 0);
+        faulty("maz 1;", 2, 0);
+        faulty("zoo !", 2, 0);
+        faulty("aaa !", 2, 0);
         faulty("man 3; 3;", 2, 7);
         faulty(";", 2, 0);
         faulty("man 3;;", 2, 6);
