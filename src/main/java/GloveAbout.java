@@ -475,11 +475,11 @@ public final class GloveAbout {
             return BAD;
         }
         Sheet sheet = sheets[k];
-        int found = sheet.faultAs(lane);
+        int found = 0;
         int whole = 0;
         for (int i = 0; i < n && found == 0; i++) {
             // No overflow: where i is above 0, f was the index of a CELL.
-            found = sheet.faultAtPair(f + 2 * i);
+            found = sheet.faultAtPair(lane, f + 2 * i);
             if (found == 0) {
                 if (refusalOf(sheet.cells[f + 2 * i], AT, sheet.cells[f + 2 * i + 1]) != 0) {
                     return -20 - i;
@@ -931,11 +931,6 @@ public final class GloveAbout {
             return lane == NO_LANE;
         }
 
-        /** The machine takes nothing as of any lane; it finds NULL when a CELL is asked. */
-        int faultAs(int wanted) {
-            return isNothing() || lane == wanted ? 0 : CAST_FAULT;
-        }
-
         int faultAt(int i) {
             if (isNothing()) {
                 return NULL_FAULT;
@@ -943,7 +938,11 @@ public final class GloveAbout {
             return isWithin(i, size - 1) ? 0 : INDEX_FAULT;
         }
 
-        int faultAtPair(int i) {
+        /** The machine takes nothing as of any lane, so that NULL is met ahead of CAST; CAST is met ahead of INDEX. */
+        int faultAtPair(int wanted, int i) {
+            if (!isNothing() && lane != wanted) {
+                return CAST_FAULT;
+            }
             int found = faultAt(i);
             return found != 0 ? found : faultAt(i + 1);
         }

@@ -740,10 +740,10 @@ public final class PlainGloves {
         int came = 0;
         int found = 0;
         try {
-            byte[] bytes = lane == 0 ? (byte[]) sheets[k] : null;
-            short[] shorts = lane == 1 ? (short[]) sheets[k] : null;
-            int[] ints = lane == 2 ? (int[]) sheets[k] : null;
             for (int i = 0; i < n; i++) {
+                byte[] bytes = lane == 0 ? (byte[]) sheets[k] : null;
+                short[] shorts = lane == 1 ? (short[]) sheets[k] : null;
+                int[] ints = lane == 2 ? (int[]) sheets[k] : null;
                 int c = f + 2 * i;
                 int g = lane == 0 ? bytes[c] : lane == 1 ? shorts[c] : ints[c];
                 int d = lane == 0 ? bytes[c + 1] : lane == 1 ? shorts[c + 1] : ints[c + 1];

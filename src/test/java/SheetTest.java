@@ -163,16 +163,23 @@ public final class SheetTest {
         C.due("torn(): of read() alone", x.torn(), 1);
     }
 
-    /** Where no CELL is asked, the machine finds no NULL and no INDEX, but it finds that the lane is another. */
+    /** Of 0 times nothing is taken as of a lane and no CELL is asked: no NULL, no INDEX, no CAST. */
     private static void readOfNothing() {
         GloveAbout x = withSheet("signer 2 6;", 2, 0, 4);
+        for (int lane = 0; lane < 3; lane++) {
+            tornBehindReadOfNone(x, 0, lane, 0);
+            tornBehindReadOfNone(x, 2, lane, 0);
+            tornBehindReadOfNone(x, 2, lane, -5);
+            tornBehindReadOfNone(x, 2, lane, Integer.MAX_VALUE);
+        }
+    }
+
+    private static void tornBehindReadOfNone(GloveAbout x, int k, int lane, int f) {
         x.read(0, 0, 0, 1);
-        C.due("read(0, 0, 0, 0)", x.read(0, 0, 0, 0), 0);
+        C.due("torn() behind a read() of nothing", x.torn(), 1);
+        C.due("read(" + k + ", " + lane + ", " + f + ", 0)", x.read(k, lane, f, 0), 0);
         C.due("torn()", x.torn(), 0);
-        C.due("read(2, 0, 0, 0)", x.read(2, 0, 0, 0), 0);
-        C.due("torn()", x.torn(), 3);
-        C.due("read(2, 2, -5, 0)", x.read(2, 2, -5, 0), 0);
-        C.due("torn()", x.torn(), 0);
+        C.due("glove(0, 1)", x.glove(0, 1), 2);
     }
 
     private static void theFirstMet() {
