@@ -127,6 +127,7 @@ final class BestBoundaries {
         // Of one CALL none is left: he stays.
         Play one = s.play("signer 2 6;fame 0 0 0 0 9;route 3;man 8;").due("shun(2, 0)", 0).due("shun(2, 1)", 9);
         one.due("rule(6)", 1).due("shun(60, 0)", 0);
+        DayBoundaries.nearTheEndOfName(s).does("call(6)").due("shun(1, 0)", 0).due("shun(1, 1)", 27);
     }
 
     private void shunWithinBounds() {

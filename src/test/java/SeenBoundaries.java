@@ -30,6 +30,8 @@ final class SeenBoundaries {
         s.ofTerms("SEEN (6): behind n DAYS (0 to 20) from now on a GLOVE is AT a DOOR.");
         Play x = s.play(NEVER).does("see(0, 0, 0)").due("doors(0)", 1).does("days(1)").due("doors(0)", 1);
         x.due("kinds(0)", 0).does("days(11)").due("glove(0, 1)", 0).due("kinds(0)", ALL_KINDS);
+        Play each = s.play("signer 2 9;man 1;").does("see(2, 0, 4)").due("doors(0)", 4).does("see(1, 0, 3)");
+        each.due("doors(0)", 4).does("see(0, 0, 2)").due("doors(0)", 4).does("see(9, 0, 11)").due("doors(0)", 4);
         Play last = s.play(NEVER).does("see(20, 0, 8)").due("doors(0)", 1).dueBit("kinds(0)", 0, 1);
         last.does("days(1)").dueBit("kinds(0)", 0, 1).does("forget(0)", "see(20, 0, 9)").dueBit("kinds(0)", 0, 0);
         Play six = s.play(NEVER);

@@ -49,6 +49,9 @@ final class SheetBoundaries {
         Play last = DayBoundaries.onTheLastDay(s, "signer 2 0;route 1 2 3 4 5 6;").does("see(0, 0, 2)", "keep(1)");
         last.does("cut(0)", "forget(0)", "alter(0, 2, 20)").due("back(1)", 999).due("rule(1)", 999).due("rule(6)", 6);
         last.due("days(1)", GloveAbout.FULL).due("count(0)", 1).due("rule(5)", 1);
+        Play seen = s.play("signer 2 9;signer 5 0;man 9;").does("see(1, 0, 3)", "see(20, 1, 5)", "keep(1)");
+        seen.does("forget(0)", "see(0, 1, 3)", "see(0, 0, 5)").due("doors(0)", 0).due("back(1)", 0).due("doors(0)", 4);
+        seen.due("doors(1)", 32);
         // All six of ROUTE and SEEN are kept, and all twelve FAMES.
         Play full = s.play("signer 0 20;fame 1 2 3 4 5 6 7 8 9 8 7 6;route 0 1 2 3 4 5;");
         for (int i = 0; i < 6; i++) {

@@ -133,6 +133,7 @@ final class TextBoundaries {
         for (String text : texts) {
             Play x = s.play("signer 2 6;bold 9 4;fame 1 1 1 1;route 3 5;man 1;");
             x.does("see(1, 0, 3)", "keep(0)", "days(2)", "keep(1)", "sheet(0, 1, 3)").due("rule(4)", 1);
+            x.does("runs(60, 0)").due("runs(60, 1)", 1);
             x.told(text).due("rule(0)", text.startsWith("shy") ? 1 : 0);
             x.all(0, "rule(1)", "rule(2)", "rule(3)", "rule(4)", "rule(5)", "rule(6)", "count(0)", "count(1)",
                 "count(5)");
@@ -169,6 +170,7 @@ final class TextBoundaries {
     private void canNotStandThere() {
         s.ofTerms("2 a TOKEN that can not stand there (a NAME that begins no line; or the end: the length).");
         s.play().faulty("x", 2, 0).faulty("ma 1;", 2, 0).faulty("mans 1;", 2, 0).faulty("man 1;a", 2, 6);
+        s.play().faulty("can 1;", 2, 0).faulty("hold 1 1;", 2, 0).faulty("maz 1;", 2, 0).faulty("boldshy 1 1;", 2, 0);
         s.play().faulty("7;", 2, 0).faulty(";", 2, 0).faulty("man 1;;", 2, 6).faulty("man 1;1", 2, 6);
         s.play().faulty("man", 2, 3).faulty("man 1", 2, 5).faulty("man  ", 2, 5).faulty("man 1  ", 2, 7);
         s.play().faulty("signer", 2, 6).faulty("signer 1", 2, 8).faulty("signer 1 1", 2, 10);
