@@ -35,8 +35,7 @@ public final class GloveAbout {
     private final Sights seen = new Sights();
     private final World trial = new World();
     private final World[] branches = new World[DAYS_BY_ODDS + 1];
-    private final Tape tape = new Tape();
-    private final TextReader reader = new TextReader(tape, trial);
+    private final TextReader reader = new TextReader();
     private final Image[] images = new Image[IMAGE_COUNT];
     private final Sheet[] sheets = new Sheet[SHEET_COUNT];
     private int textFault;
@@ -60,6 +59,7 @@ public final class GloveAbout {
         if (!isWithin(c, 127)) {
             return BAD;
         }
+        Tape tape = reader.tape;
         if (tape.length >= TAPE_LIMIT) {
             return FULL;
         }
@@ -69,6 +69,7 @@ public final class GloveAbout {
     }
 
     public int end(int n) {
+        Tape tape = reader.tape;
         if (!isWithin(n, tape.length)) {
             return BAD;
         }
@@ -79,12 +80,12 @@ public final class GloveAbout {
 
     public int text() {
         boolean taken = reader.takesAll();
-        tape.length = 0;
+        reader.tape.length = 0;
         textFault = reader.fault;
         if (!taken) {
             return -10 - reader.start;
         }
-        now.become(trial);
+        now.become(reader.draft);
         seen.count = 0;
         for (int k = 0; k < images.length; k++) {
             images[k].kept = false;
@@ -502,7 +503,7 @@ public final class GloveAbout {
         switch (what) {
             case 0: return seen.count;
             case 1: return imagesKept();
-            case 2: return tape.length;
+            case 2: return reader.tape.length;
             case 3: return sheets[0].isNothing() ? NONE : sheets[0].size;
             case 4: return sumOf(now.warm, now.gloves);
             case 5: return sumOf(now.fames, DOOR_COUNT);
@@ -552,9 +553,10 @@ public final class GloveAbout {
 
     // ---- sums and steps
 
+    /** It calls nothing, not even Math: the longest chain of calls has its end here, eight deep. */
     private static int farOf(int one, int other) {
-        int way = Math.abs(one - other);
-        return Math.min(way, DOOR_COUNT - way);
+        int way = one < other ? other - one : one - other;
+        return way < DOOR_COUNT - way ? way : DOOR_COUNT - way;
     }
 
     private static int sumOf(int[] row, int length) {
@@ -961,13 +963,13 @@ public final class GloveAbout {
         int length;
     }
 
-    /** Reads THE TAPE, token by token, into a draft. */
+    /** THE TAPE, and the draft into which it is read, token by token. */
     private static final class TextReader {
         private static final int END = 0, WORD = 1, NUMBER = 2, MARK = 3;
         private static final int FAME = 4, ROUTE = 5, MAN = 6, WORD_COUNT = 7;
         private static final int NO_TOKEN = 1, MISPLACED = 2, OUT_OF_BOUNDS = 3, TOLD_TWICE = 4, TOO_MANY = 5;
-        private final Tape tape;
-        private final World draft;
+        final Tape tape = new Tape();
+        final World draft = new World();
         private int next;
         private int token;
         private int number;
@@ -977,11 +979,6 @@ public final class GloveAbout {
         int start;
         int fault;
         int lines;
-
-        TextReader(Tape tape, World draft) {
-            this.tape = tape;
-            this.draft = draft;
-        }
 
         boolean takesAll() {
             draft.makeEmpty();

@@ -117,6 +117,16 @@ public final class SeenTest {
         GloveAbout z = Check.told("shy 2 20;route 8 9 0 3 4 7;man 0;");
         C.due("ask(0, 0): late", z.ask(0, 0), 13);
         C.due("ask(0, 1)", z.ask(0, 1), 1);
+        askLate();
+    }
+
+    /** Behind 14 days: no world has a later answer (NOTES.md tells how that is known). */
+    private static void askLate() {
+        GloveAbout x = Check.told("signer 0 14;route 6 1 2 3 4 7;");
+        C.due("ask(0, 0): as late as may be", x.ask(0, 0), 14);
+        C.due("ask(0, 1)", x.ask(0, 1), 1);
+        x.alter(0, 2, 13);
+        C.holds("ask(0, 0): cold by then", x.ask(0, 0) < 14);
     }
 
     private static void ofAllGloves() {
